@@ -1,0 +1,73 @@
+import java.util.Objects;
+
+/** What the tests share: a call's answer or exception against the one that is due. */
+final class Check {
+    interface Call {
+        Object answer();
+    }
+
+    static final Class<?> INDEX = IndexOutOfBoundsException.class;
+    static final Class<?> ARGUMENT = IllegalArgumentException.class;
+    static final Class<?> STATE = IllegalStateException.class;
+    static final Class<?> UNSUPPORTED = UnsupportedOperationException.class;
+    static final Class<?> NONE = java.util.NoSuchElementException.class;
+    static final Class<?> ARITHMETIC = ArithmeticException.class;
+
+    private static int right = 0;
+    private static int wrong = 0;
+
+    private Check() {
+    }
+
+    static void same(String what, Object due, Object got) {
+        if (Objects.equals(due, got)) {
+            right++;
+            return;
+        }
+        wrong++;
+        System.out.println(what + ": due is " + due + ", answered was " + got);
+    }
+
+    /** The class must be the very one, as a subclass may come from the machine itself. */
+    static void refuses(String what, Class<?> due, Call call) {
+        Object got;
+        try {
+            got = call.answer();
+        } catch (RuntimeException thrown) {
+            got = thrown.getClass();
+        }
+        same(what, due, got);
+    }
+
+    /** An answer, or the class of the exception thrown instead. */
+    static Object outcome(Call call) {
+        try {
+            return call.answer();
+        } catch (RuntimeException thrown) {
+            return thrown.getClass();
+        }
+    }
+
+    static void end(String name) {
+        System.out.println(name + ": " + right + " checks right, " + wrong + " wrong");
+        if (wrong != 0) {
+            System.exit(1);
+        }
+    }
+
+    static Sketchery room(char kind, int size, int second, int seed, int... items) {
+        Sketchery room = new Sketchery();
+        room.sketch(kind, size, second, seed);
+        add(room, 0, 1, items);
+        return room;
+    }
+
+    static void add(Sketchery room, int sketch, int weight, int... items) {
+        for (int item : items) {
+            room.wipe();
+            room.type(item);
+            room.addTyped(sketch, weight);
+        }
+        room.wipe();
+    }
+}
