@@ -361,7 +361,8 @@ public final class Sketchery {
         checkRange(seeds, 1, 100);
         int failures = 0;
         for (int seed = 0; seed < seeds; seed++) {
-            peeling.peelFirstItems(cells, items, seed);
+            peeling.takeFirstItems(cells, items, seed);
+            peeling.peelAll();
             if (!peeling.listsFirst(items)) {
                 failures++;
             }
@@ -560,7 +561,8 @@ public final class Sketchery {
     private Peeling peelingOf(int number) {
         Sketch found = sketchAt(number);
         if (found instanceof Cells cells) {
-            peeling.peelCopyOf(cells);
+            peeling.takeCopyOf(cells);
+            peeling.peelAll();
             return peeling;
         }
         throw new UnsupportedOperationException("not of cells");
@@ -1501,21 +1503,19 @@ public final class Sketchery {
         private final boolean[] areThere = new boolean[MOST_PEELED];
         private int used = 0;
 
-        void peelCopyOf(Cells its) {
+        void takeCopyOf(Cells its) {
             cells.becomeEmpty(its.size, its.seed);
             cells.combine(its, 1);
-            peelAll();
         }
 
-        void peelFirstItems(int many, int itemsAdded, int seed) {
+        void takeFirstItems(int many, int itemsAdded, int seed) {
             cells.becomeEmpty(many, seed);
             for (int item = 0; item < itemsAdded; item++) {
                 cells.change(item, 1);
             }
-            peelAll();
         }
 
-        private void peelAll() {
+        void peelAll() {
             used = 0;
             int from = 0;
             for (int i = 0; i < MOST_PEELED; i++) {

@@ -13,6 +13,10 @@ final class Check {
     static final Class<?> NONE = java.util.NoSuchElementException.class;
     static final Class<?> ARITHMETIC = ArithmeticException.class;
 
+    static final int[] WRONG_ITEMS = {-1, 65536, Integer.MIN_VALUE, Integer.MAX_VALUE};
+    /** Of a room with nine sketches. */
+    static final int[] WRONG_SKETCHES = {-1, 9, 10, Integer.MIN_VALUE, Integer.MAX_VALUE};
+
     private static int right = 0;
     private static int wrong = 0;
 
@@ -59,6 +63,21 @@ final class Check {
         Sketchery room = new Sketchery();
         room.sketch(kind, size, second, seed);
         add(room, 0, 1, items);
+        return room;
+    }
+
+    /** One sketch of each of the nine kinds. */
+    static Sketchery roomOfAllKinds() {
+        Sketchery room = new Sketchery();
+        room.sketch('f', 8, 1, 0);
+        room.sketch('d', 8, 0, 0);
+        room.sketch('h', 8, 0, 0);
+        room.sketch('c', 8, 1, 0);
+        room.sketch('q', 8, 0, 0);
+        room.sketch('s', 8, 0, 0);
+        room.sketch('w', 8, 1, 0);
+        room.sketch('m', 8, 0, 0);
+        room.sketch('i', 9, 0, 0);
         return room;
     }
 

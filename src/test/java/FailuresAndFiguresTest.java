@@ -58,11 +58,12 @@ public final class FailuresAndFiguresTest {
     private static void leastBits() {
         Sketchery room = new Sketchery();
         Check.same("5 40 4", 37, room.leastBits(5, 40, 4));
+        Check.same("the greatest filter", 256, room.leastBits(28, 61, 2));
         Check.same("no items", 8, room.leastBits(0, 100, 0));
         Check.same("all may fail", 8, room.leastBits(40, 100, 100));
         Check.same("more than all", 8, room.leastBits(40, 1, Integer.MAX_VALUE));
         Check.refuses("none", Check.NONE, () -> room.leastBits(40, 100, 0));
-        int[][] all = {{10, 50, 5}, {1, 100, 0}, {40, 100, 20}, {3, 1, 0}};
+        int[][] all = {{10, 50, 5}, {1, 100, 0}, {40, 100, 20}, {3, 1, 0}, {28, 61, 2}};
         for (int[] each : all) {
             int bits = room.leastBits(each[0], each[1], each[2]);
             Check.same("few fail", true, room.filterFailures(bits, 1, each[0], each[1]) <= each[2]);

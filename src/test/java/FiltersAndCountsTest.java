@@ -1,8 +1,5 @@
 /** Promises 12 to 19. */
 public final class FiltersAndCountsTest {
-    private static final int[] WRONG_ITEMS = {-1, 65536, Integer.MIN_VALUE, Integer.MAX_VALUE};
-    private static final int[] WRONG_SKETCHES = {-1, 9, 10, Integer.MIN_VALUE, Integer.MAX_VALUE};
-
     public static void main(String[] arguments) {
         filter();
         registers();
@@ -174,22 +171,8 @@ public final class FiltersAndCountsTest {
         Check.same("sound", true, room.isSound());
     }
 
-    private static Sketchery all() {
-        Sketchery room = new Sketchery();
-        room.sketch('f', 8, 1, 0);
-        room.sketch('d', 8, 0, 0);
-        room.sketch('h', 8, 0, 0);
-        room.sketch('c', 8, 1, 0);
-        room.sketch('q', 8, 0, 0);
-        room.sketch('s', 8, 0, 0);
-        room.sketch('w', 8, 1, 0);
-        room.sketch('m', 8, 0, 0);
-        room.sketch('i', 9, 0, 0);
-        return room;
-    }
-
     private static void refusals() {
-        Sketchery room = all();
+        Sketchery room = Check.roomOfAllKinds();
         for (int sketch = 0; sketch < 9; sketch++) {
             int at = sketch;
             char kind = room.kind(at);
@@ -213,7 +196,7 @@ public final class FiltersAndCountsTest {
             if (kind != 'c') {
                 Check.refuses(kind + " excess", Check.UNSUPPORTED, () -> room.excess(at, -1, 0));
             }
-            for (int wrong : WRONG_ITEMS) {
+            for (int wrong : Check.WRONG_ITEMS) {
                 Check.refuses(kind + " may " + wrong, Check.ARGUMENT, () -> room.may(at, wrong));
                 Check.refuses(kind + " count " + wrong, Check.ARGUMENT, () -> room.count(at, wrong));
                 Check.refuses(kind + " excess " + wrong, Check.ARGUMENT, () -> room.excess(at, 0, wrong));
@@ -222,7 +205,7 @@ public final class FiltersAndCountsTest {
         for (int wrong : new int[] {-1, 8, 64, Integer.MIN_VALUE, Integer.MAX_VALUE}) {
             Check.refuses("register " + wrong, Check.NONE, () -> room.register(1, wrong));
         }
-        for (int wrong : WRONG_SKETCHES) {
+        for (int wrong : Check.WRONG_SKETCHES) {
             Check.refuses("may", Check.INDEX, () -> room.may(wrong, -1));
             Check.refuses("ones", Check.INDEX, () -> room.ones(wrong));
             Check.refuses("register", Check.INDEX, () -> room.register(wrong, -1));

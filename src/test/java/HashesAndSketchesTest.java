@@ -1,6 +1,5 @@
 /** Promises 1 to 11. */
 public final class HashesAndSketchesTest {
-    private static final int[] WRONG_ITEMS = {-1, 65536, Integer.MIN_VALUE, Integer.MAX_VALUE};
     private static final int[] WRONG_SKETCHES = {-1, 1, 10, Integer.MIN_VALUE, Integer.MAX_VALUE};
 
     public static void main(String[] arguments) {
@@ -40,7 +39,7 @@ public final class HashesAndSketchesTest {
                 Check.same("hash " + item + " " + seed, exactHash(item, seed), room.hash(item, seed));
             }
         }
-        for (int wrong : WRONG_ITEMS) {
+        for (int wrong : Check.WRONG_ITEMS) {
             Check.refuses("hash of " + wrong, Check.ARGUMENT, () -> room.hash(wrong, 0));
             Check.refuses("hash by " + wrong, Check.ARGUMENT, () -> room.hash(0, wrong));
         }
@@ -107,7 +106,7 @@ public final class HashesAndSketchesTest {
         for (int[] each : wrong) {
             refuses(kind, each[0], each[1]);
         }
-        for (int seed : WRONG_ITEMS) {
+        for (int seed : Check.WRONG_ITEMS) {
             Check.refuses(kind + " seed " + seed, Check.ARGUMENT,
                 () -> new Sketchery().sketch(kind, least, from, seed));
         }
@@ -154,7 +153,7 @@ public final class HashesAndSketchesTest {
         Sketchery room = new Sketchery();
         Check.same("first", 1, room.type(0));
         Check.same("second", 2, room.type(65535));
-        for (int wrong : WRONG_ITEMS) {
+        for (int wrong : Check.WRONG_ITEMS) {
             Check.refuses("type " + wrong, Check.ARGUMENT, () -> room.type(wrong));
         }
         for (int i = 3; i <= 40; i++) {
@@ -178,7 +177,7 @@ public final class HashesAndSketchesTest {
         Check.refuses("37 more", Check.STATE, () -> room.typeRow(0, 0, 37));
         Check.same("nothing changed", 40, room.typeRow(0, 0, 36));
         Check.refuses("one more", Check.STATE, () -> room.typeRow(0, 0, 1));
-        for (int wrong : WRONG_ITEMS) {
+        for (int wrong : Check.WRONG_ITEMS) {
             Check.refuses("first " + wrong, Check.ARGUMENT, () -> room.typeRow(wrong, 0, 1));
             Check.refuses("step " + wrong, Check.ARGUMENT, () -> room.typeRow(0, wrong, 1));
         }
@@ -354,6 +353,9 @@ public final class HashesAndSketchesTest {
         Check.same("counters", true, same('h', 3, 0, new int[] {1, 2, 2}, new int[] {2, 1, 2}));
         Check.same("other counts", false, same('h', 3, 0, new int[] {1, 2, 2}, new int[] {2, 1, 1}));
         Check.same("other items", false, same('h', 3, 0, new int[] {1, 2}, new int[] {1, 3}));
+        Check.same("the first item alone", false, same('h', 3, 0, new int[] {1, 2}, new int[] {3, 2}));
+        Check.same("the register 0 alone", false, same('d', 4, 0, new int[] {0}, new int[] {}, 0));
+        Check.same("the first place alone", false, same('s', 3, 0, new int[] {1, 2}, new int[] {3, 2}));
         Check.same("error alone", false, same('h', 1, 0, new int[] {1, 2}, new int[] {}));
         Check.same("a like error", true, same('h', 1, 0, new int[] {1, 2}, new int[] {3, 4}));
         Check.same("rows", true, same('c', 8, 2, new int[] {1, 2, 2}, new int[] {2, 2, 1}));
@@ -381,9 +383,13 @@ public final class HashesAndSketchesTest {
     }
 
     private static boolean same(char kind, int size, int second, int[] some, int[] others) {
+        return same(kind, size, second, some, others, 11);
+    }
+
+    private static boolean same(char kind, int size, int second, int[] some, int[] others, int seed) {
         Sketchery room = new Sketchery();
-        room.sketch(kind, size, second, 11);
-        room.sketch(kind, size, second, 11);
+        room.sketch(kind, size, second, seed);
+        room.sketch(kind, size, second, seed);
         Check.add(room, 0, 1, some);
         Check.add(room, 1, 1, others);
         boolean isSame = room.isSame(0, 1);

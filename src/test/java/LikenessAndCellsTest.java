@@ -1,7 +1,10 @@
+import java.util.ArrayList;
+import java.util.List;
+import java.util.Set;
+import java.util.TreeSet;
+
 /** Promises 28 to 33. */
 public final class LikenessAndCellsTest {
-    private static final int[] WRONG_SKETCHES = {-1, 9, 10, Integer.MIN_VALUE, Integer.MAX_VALUE};
-
     public static void main(String[] arguments) {
         leastHashes();
         likeness();
@@ -9,6 +12,7 @@ public final class LikenessAndCellsTest {
         peelOrder();
         peelTwins();
         peelLacking();
+        endlessPeeling();
         refusals();
         Check.end("LikenessAndCellsTest");
     }
@@ -187,17 +191,85 @@ public final class LikenessAndCellsTest {
         Check.same("nothing is left", 0, room.peeled(0, false));
     }
 
-    private static void refusals() {
+    private static long vector(int item, int seed) {
+        return item | (long) PlainRoom.hash(item, seed + 3) << 16 & 0xFFFFFFFF0000L | 1L << 48;
+    }
+
+    private static boolean goesTo(int item, int seed, int... places) {
+        return cell(item, seed, 2, 0) == places[0] && cell(item, seed, 2, 1) == places[1];
+    }
+
+    /** Items, an odd number, of the cells 1 and 2, whose sum and sum of hashes are those of one item. */
+    private static List<Integer> itemsThatSumTo(int sum, int seed) {
+        long[] heads = new long[49];
+        List<Set<Integer>> sets = new ArrayList<>();
+        for (int i = 0; i < 49; i++) {
+            sets.add(new TreeSet<>());
+        }
+        for (int item = 0; item < 65536; item++) {
+            if (item == sum || !goesTo(item, seed, 1, 2)) {
+                continue;
+            }
+            Set<Integer> set = new TreeSet<>(Set.of(item));
+            long rest = reduce(vector(item, seed), heads, sets, set);
+            if (rest != 0) {
+                int top = 63 - Long.numberOfLeadingZeros(rest);
+                heads[top] = rest;
+                sets.set(top, set);
+            }
+        }
+        Set<Integer> set = new TreeSet<>();
+        Check.same("they sum to it", 0L, reduce(vector(sum, seed), heads, sets, set));
+        return new ArrayList<>(set);
+    }
+
+    private static long reduce(long vector, long[] heads, List<Set<Integer>> sets, Set<Integer> set) {
+        long rest = vector;
+        for (int top = 48; top >= 0; top--) {
+            if ((rest >>> top & 1) == 1 && heads[top] != 0) {
+                rest ^= heads[top];
+                for (int item : sets.get(top)) {
+                    if (!set.remove(item)) {
+                        set.add(item);
+                    }
+                }
+            }
+        }
+        return rest;
+    }
+
+    /**
+     * An item x is alone in the cell 0, and in the cell 2 with others that sum to it: the count there
+     * is 0, and all sums. Peeling takes x from the cell 0, lacks it in the cell 2, and begins again.
+     */
+    private static void endlessPeeling() {
+        int seed = 5;
+        int x = 0;
+        while (!goesTo(x, seed, 0, 2)) {
+            x++;
+        }
+        List<Integer> items = itemsThatSumTo(x, seed);
+        Check.same("an odd number", 1, items.size() % 2);
+        int half = items.size() / 2;
         Sketchery room = new Sketchery();
-        room.sketch('f', 8, 1, 0);
-        room.sketch('d', 8, 0, 0);
-        room.sketch('h', 8, 0, 0);
-        room.sketch('c', 8, 1, 0);
-        room.sketch('q', 8, 0, 0);
-        room.sketch('s', 8, 0, 0);
-        room.sketch('w', 8, 1, 0);
-        room.sketch('m', 8, 0, 0);
-        room.sketch('i', 9, 0, 0);
+        room.sketch('i', 6, 0, seed);
+        room.sketch('i', 6, 0, seed);
+        Check.add(room, 0, 1, x);
+        for (int i = 0; i < items.size(); i++) {
+            Check.add(room, i < half ? 0 : 1, 1, items.get(i));
+        }
+        room.subtract(0, 1);
+        Check.same("200 at most, there", 100, room.peeled(0, true));
+        Check.same("200 at most, lacking", 100, room.peeled(0, false));
+        Check.same("the last one there", x, room.peeledAt(0, true, 99));
+        Check.same("the last one lacking", x, room.peeledAt(0, false, 99));
+        Check.refuses("no more there", Check.NONE, () -> room.peeledAt(0, true, 100));
+        Check.refuses("no more lacking", Check.NONE, () -> room.peeledAt(0, false, 100));
+        Check.same("not clean", false, room.isClean(0));
+    }
+
+    private static void refusals() {
+        Sketchery room = Check.roomOfAllKinds();
         for (int sketch = 0; sketch < 9; sketch++) {
             int at = sketch;
             char kind = room.kind(at);
@@ -213,7 +285,7 @@ public final class LikenessAndCellsTest {
             }
             Check.refuses(kind + " subtract", Check.UNSUPPORTED, () -> room.subtract(at, 8));
         }
-        for (int wrong : WRONG_SKETCHES) {
+        for (int wrong : Check.WRONG_SKETCHES) {
             Check.refuses("leastAt", Check.INDEX, () -> room.leastAt(wrong, -1));
             Check.refuses("likeness", Check.INDEX, () -> room.likeness(wrong, 0));
             Check.refuses("likeness", Check.INDEX, () -> room.likeness(0, wrong));

@@ -9,8 +9,7 @@ import java.util.TreeSet;
 
 /**
  * A second room, written from the document with the library's collections and no care for speed,
- * against which the first one is held in random runs. It knows no exceptions but a few: the runs
- * ask it only what a guard of its own has let through.
+ * against which the first one is held in random runs.
  */
 final class PlainRoom {
     static final class Plain {

@@ -1,8 +1,5 @@
 /** Promises 20 to 27. */
 public final class QuantilesSamplesWindowsTest {
-    private static final int[] WRONG_ITEMS = {-1, 65536, Integer.MIN_VALUE, Integer.MAX_VALUE};
-    private static final int[] WRONG_SKETCHES = {-1, 9, 10, Integer.MIN_VALUE, Integer.MAX_VALUE};
-
     public static void main(String[] arguments) {
         levels();
         rankAndQuantile();
@@ -239,16 +236,7 @@ public final class QuantilesSamplesWindowsTest {
     }
 
     private static void refusals() {
-        Sketchery room = new Sketchery();
-        room.sketch('f', 8, 1, 0);
-        room.sketch('d', 8, 0, 0);
-        room.sketch('h', 8, 0, 0);
-        room.sketch('c', 8, 1, 0);
-        room.sketch('q', 8, 0, 0);
-        room.sketch('s', 8, 0, 0);
-        room.sketch('w', 8, 1, 0);
-        room.sketch('m', 8, 0, 0);
-        room.sketch('i', 9, 0, 0);
+        Sketchery room = Check.roomOfAllKinds();
         for (int sketch = 0; sketch < 9; sketch++) {
             int at = sketch;
             char kind = room.kind(at);
@@ -265,14 +253,14 @@ public final class QuantilesSamplesWindowsTest {
                 Check.refuses(kind + " within", Check.UNSUPPORTED, () -> room.within(at));
                 Check.refuses(kind + " bucketAt", Check.UNSUPPORTED, () -> room.bucketAt(at, -1));
             }
-            for (int wrong : WRONG_ITEMS) {
+            for (int wrong : Check.WRONG_ITEMS) {
                 Check.refuses(kind + " rank " + wrong, Check.ARGUMENT, () -> room.rank(at, wrong));
                 Check.refuses(kind + " quantile " + wrong, Check.ARGUMENT, () -> room.quantile(at, wrong));
             }
             Check.refuses(kind + " kept -1", Check.ARGUMENT, () -> room.kept(at, -1));
             Check.refuses(kind + " kept least", Check.ARGUMENT, () -> room.kept(at, Integer.MIN_VALUE));
         }
-        for (int wrong : WRONG_SKETCHES) {
+        for (int wrong : Check.WRONG_SKETCHES) {
             Check.refuses("rank", Check.INDEX, () -> room.rank(wrong, -1));
             Check.refuses("quantile", Check.INDEX, () -> room.quantile(wrong, -1));
             Check.refuses("kept", Check.INDEX, () -> room.kept(wrong, -1));
