@@ -768,7 +768,8 @@ public final class Sketchery {
             } else {
                 long least = leastWith(weight);
                 takeAway(least);
-                if (weight > least) {
+                free(false);
+                if (weight != least) {
                     append(item, weight - least);
                 }
             }
@@ -800,17 +801,23 @@ public final class Sketchery {
         }
 
         private void takeAway(long taken) {
+            for (int i = 0; i < used && i < counts.length; i++) {
+                counts[i] -= taken;
+            }
+            lost += taken;
+        }
+
+        /** Frees counters at 0, or those below it, too. */
+        private void free(boolean isBelowToo) {
             int left = 0;
             for (int i = 0; i < used && i < counts.length && i < items.length; i++) {
-                long rest = counts[i] - taken;
-                if (rest > 0) {
+                if (counts[i] > 0 || counts[i] < 0 && !isBelowToo) {
                     items[left] = items[i];
-                    counts[left] = rest;
+                    counts[left] = counts[i];
                     left++;
                 }
             }
             used = left;
-            lost += taken;
         }
 
         long countOf(int item) {
@@ -853,6 +860,7 @@ public final class Sketchery {
                 for (int i = 0; i < MOST_COUNTERS && used > size; i++) {
                     int index = indexRanked(size);
                     takeAway(index >= 0 ? counts[index] : 0);
+                    free(true);
                 }
             }
         }

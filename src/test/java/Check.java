@@ -1,4 +1,5 @@
 import java.util.Objects;
+import java.util.function.IntFunction;
 
 /** What the tests share: a call's answer or exception against the one that is due. */
 final class Check {
@@ -19,8 +20,14 @@ final class Check {
 
     private static int right = 0;
     private static int wrong = 0;
+    private static String subject = "";
 
     private Check() {
+    }
+
+    /** Which promise or kind the next checks are about; each message begins with it. */
+    static void about(String what) {
+        subject = what + ": ";
     }
 
     static void same(String what, Object due, Object got) {
@@ -29,7 +36,7 @@ final class Check {
             return;
         }
         wrong++;
-        System.out.println(what + ": due is " + due + ", answered was " + got);
+        System.out.println(subject + what + ": due is " + due + ", answered was " + got);
     }
 
     /** The class must be the very one, as a subclass may come from the machine itself. */
@@ -49,6 +56,38 @@ final class Check {
             return call.answer();
         } catch (RuntimeException thrown) {
             return thrown.getClass();
+        }
+    }
+
+    static void takes(String what, Call call) {
+        Object got = outcome(call);
+        same(what + (got instanceof Class ? " answers " + got : ""), false, got instanceof Class);
+    }
+
+    /** Both ends are taken; one less, one more and the ends of an int are refused. */
+    static void range(String what, int least, int greatest, IntFunction<Object> call) {
+        takes(what + " " + least, () -> call.apply(least));
+        takes(what + " " + greatest, () -> call.apply(greatest));
+        for (int beyond : new int[] {least - 1, greatest + 1, Integer.MIN_VALUE, Integer.MAX_VALUE}) {
+            refuses(what + " " + beyond, ARGUMENT, () -> call.apply(beyond));
+        }
+    }
+
+    /** There are as many elements, from 0 on, and no others. */
+    static void elements(String what, int many, IntFunction<Object> call) {
+        for (int i = 0; i < many; i++) {
+            int index = i;
+            takes(what + " " + index, () -> call.apply(index));
+        }
+        for (int beyond : new int[] {-1, many, many + 1, Integer.MIN_VALUE, Integer.MAX_VALUE}) {
+            refuses(what + " " + beyond, NONE, () -> call.apply(beyond));
+        }
+    }
+
+    /** A number that no sketch has, in a room with as many. */
+    static void sketches(String what, int many, IntFunction<Object> call) {
+        for (int beyond : new int[] {-1, many, 10, Integer.MIN_VALUE, Integer.MAX_VALUE}) {
+            refuses(what + " of the sketch " + beyond, INDEX, () -> call.apply(beyond));
         }
     }
 

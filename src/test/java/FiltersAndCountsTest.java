@@ -68,13 +68,15 @@ public final class FiltersAndCountsTest {
         int[] due = new int[64];
         Sketchery many = new Sketchery();
         many.sketch('d', 64, 0, 9);
-        for (int item = 0; item < 500; item++) {
+        for (int item = 0; item < 520; item++) {
             int hash = PlainRoom.hash(item, 9);
             int value = Math.min(20, 1 + Integer.numberOfLeadingZeros(hash));
             due[hash & 63] = Math.max(due[hash & 63], value);
-            many.wipe();
-            many.type(item);
-            many.addTyped(0, 7);
+            if (item % 40 == 0) {
+                many.wipe();
+                many.typeRow(item, 1, 40);
+                many.addTyped(0, 7);
+            }
         }
         for (int i = 0; i < 64; i++) {
             Check.same("register " + i, due[i], many.register(0, i));

@@ -1,7 +1,4 @@
-import java.util.ArrayList;
 import java.util.List;
-import java.util.Set;
-import java.util.TreeSet;
 
 /** Promises 28 to 33. */
 public final class LikenessAndCellsTest {
@@ -109,10 +106,6 @@ public final class LikenessAndCellsTest {
         Check.same("lacks", 0, zero.peeledAt(0, false, 0));
     }
 
-    private static int cell(int item, int seed, int third, int part) {
-        return part * third + (PlainRoom.hash(item, seed + part) >>> 1) % third;
-    }
-
     /** The first cell of all is taken each time, so items come by their first cell where they are alone. */
     private static void peelOrder() {
         Sketchery room = Check.room('i', 60, 0, 1);
@@ -122,7 +115,7 @@ public final class LikenessAndCellsTest {
         int[] cells = new int[60];
         for (int item : items) {
             for (int part = 0; part < 3; part++) {
-                cells[cell(item, 1, 20, part)]++;
+                cells[ItemSums.cell(item, 1, 20, part)]++;
             }
         }
         boolean[] done = new boolean[items.length];
@@ -131,7 +124,7 @@ public final class LikenessAndCellsTest {
             int least = 60;
             for (int i = 0; i < items.length; i++) {
                 for (int part = 0; part < 3 && !done[i]; part++) {
-                    int at = cell(items[i], 1, 20, part);
+                    int at = ItemSums.cell(items[i], 1, 20, part);
                     if (cells[at] == 1 && at < least) {
                         best = i;
                         least = at;
@@ -140,7 +133,7 @@ public final class LikenessAndCellsTest {
             }
             done[best] = true;
             for (int part = 0; part < 3; part++) {
-                cells[cell(items[best], 1, 20, part)]--;
+                cells[ItemSums.cell(items[best], 1, 20, part)]--;
             }
             Check.same("peeled " + turn, items[best], room.peeledAt(0, true, turn));
         }
@@ -191,53 +184,6 @@ public final class LikenessAndCellsTest {
         Check.same("nothing is left", 0, room.peeled(0, false));
     }
 
-    private static long vector(int item, int seed) {
-        return item | (long) PlainRoom.hash(item, seed + 3) << 16 & 0xFFFFFFFF0000L | 1L << 48;
-    }
-
-    private static boolean goesTo(int item, int seed, int... places) {
-        return cell(item, seed, 2, 0) == places[0] && cell(item, seed, 2, 1) == places[1];
-    }
-
-    /** Items, an odd number, of the cells 1 and 2, whose sum and sum of hashes are those of one item. */
-    private static List<Integer> itemsThatSumTo(int sum, int seed) {
-        long[] heads = new long[49];
-        List<Set<Integer>> sets = new ArrayList<>();
-        for (int i = 0; i < 49; i++) {
-            sets.add(new TreeSet<>());
-        }
-        for (int item = 0; item < 65536; item++) {
-            if (item == sum || !goesTo(item, seed, 1, 2)) {
-                continue;
-            }
-            Set<Integer> set = new TreeSet<>(Set.of(item));
-            long rest = reduce(vector(item, seed), heads, sets, set);
-            if (rest != 0) {
-                int top = 63 - Long.numberOfLeadingZeros(rest);
-                heads[top] = rest;
-                sets.set(top, set);
-            }
-        }
-        Set<Integer> set = new TreeSet<>();
-        Check.same("they sum to it", 0L, reduce(vector(sum, seed), heads, sets, set));
-        return new ArrayList<>(set);
-    }
-
-    private static long reduce(long vector, long[] heads, List<Set<Integer>> sets, Set<Integer> set) {
-        long rest = vector;
-        for (int top = 48; top >= 0; top--) {
-            if ((rest >>> top & 1) == 1 && heads[top] != 0) {
-                rest ^= heads[top];
-                for (int item : sets.get(top)) {
-                    if (!set.remove(item)) {
-                        set.add(item);
-                    }
-                }
-            }
-        }
-        return rest;
-    }
-
     /**
      * An item x is alone in the cell 0, and in the cell 2 with others that sum to it: the count there
      * is 0, and all sums. Peeling takes x from the cell 0, lacks it in the cell 2, and begins again.
@@ -245,11 +191,10 @@ public final class LikenessAndCellsTest {
     private static void endlessPeeling() {
         int seed = 5;
         int x = 0;
-        while (!goesTo(x, seed, 0, 2)) {
+        while (!ItemSums.goesTo(x, seed, 2, 0, 2)) {
             x++;
         }
-        List<Integer> items = itemsThatSumTo(x, seed);
-        Check.same("an odd number", 1, items.size() % 2);
+        List<Integer> items = ItemSums.itemsFor(x, seed, item -> ItemSums.goesTo(item, seed, 2, 1, 2));
         int half = items.size() / 2;
         Sketchery room = new Sketchery();
         room.sketch('i', 6, 0, seed);

@@ -18,6 +18,8 @@ final class PlainRoom {
         int second;
         int seed;
         long seen;
+        /** What was seen, not wrapped around. */
+        BigInteger all = BigInteger.ZERO;
         TreeSet<Integer> bits = new TreeSet<>();
         int[] registers = new int[64];
         TreeMap<Integer, Long> counters = new TreeMap<>();
@@ -140,7 +142,9 @@ final class PlainRoom {
     }
 
     private void see(Plain plain, int item, int weight) {
-        plain.seen += "hc".indexOf(plain.kind) >= 0 ? weight : 1;
+        int counted = "hc".indexOf(plain.kind) >= 0 ? weight : 1;
+        plain.seen += counted;
+        plain.all = plain.all.add(BigInteger.valueOf(counted));
         switch (plain.kind) {
             case 'f' -> {
                 for (int i = 0; i < plain.second; i++) {
@@ -291,6 +295,7 @@ final class PlainRoom {
         require(sketch != other && oneMake(one, two), new UnsupportedOperationException());
         of(one, "fdhcqmi");
         one.seen += two.seen;
+        one.all = one.all.add(two.all);
         one.bits.addAll(two.bits);
         for (int i = 0; i < 64; i++) {
             one.registers[i] = Math.max(one.registers[i], two.registers[i]);
@@ -329,6 +334,12 @@ final class PlainRoom {
             one.cellSums[i] ^= two.cellSums[i];
             one.cellHashes[i] ^= two.cellHashes[i];
         }
+    }
+
+    /** Whether a sketch has seen more than a long can tell; the document is silent on some answers then. */
+    boolean isBeyondALong(int sketch) {
+        boolean isThere = sketch >= 0 && sketch < sketches.size();
+        return isThere && sketches.get(sketch).all.bitLength() > 63;
     }
 
     char kind(int sketch) {

@@ -103,18 +103,18 @@ public final class QuantilesSamplesWindowsTest {
     private static void quantilesOfMany() {
         Sketchery room = new Sketchery();
         room.sketch('q', 16, 0, 0);
-        for (int i = 0; i < 100; i++) {
+        for (int i = 0; i < 60; i++) {
             room.wipe();
             room.typeRow(i * 997 % 65536, 31, 40);
             room.addTyped(0, 1);
         }
-        Check.same("seen", 4000L, room.seen(0));
+        Check.same("seen", 2400L, room.seen(0));
         int before = -1;
         for (int share = 0; share <= 100; share++) {
             int item = room.quantile(0, share);
-            long upTo = item == 65535 ? 4000 : room.rank(0, item + 1);
-            Check.same("enough", true, upTo * 100 >= 4000L * share);
-            Check.same("least", true, share == 0 || room.rank(0, item) * 100 < 4000L * share);
+            long upTo = item == 65535 ? 2400 : room.rank(0, item + 1);
+            Check.same("enough", true, upTo * 100 >= 2400L * share);
+            Check.same("least", true, share == 0 || room.rank(0, item) * 100 < 2400L * share);
             Check.same("rising", true, item >= before);
             before = item;
         }
@@ -137,7 +137,7 @@ public final class QuantilesSamplesWindowsTest {
             Sketchery room = Check.room('s', 3, 0, seed);
             int[] due = new int[3];
             int z = seed;
-            for (int n = 1; n <= 200; n++) {
+            for (int n = 1; n <= 70; n++) {
                 Check.add(room, 0, 1000, n * 11);
                 int place = n - 1;
                 if (n > 3) {
