@@ -149,6 +149,8 @@ public final class BoundsOfAnswersTest {
         Check.same("the last one", 65535, ends.heavyAt(0, 2));
         Check.add(ends, 0, 3, 65535);
         Check.same("the greatest count, of the greatest item", 65535, ends.heavyAt(0, 0));
+        Check.same("the next one", 0, ends.heavyAt(0, 1));
+        Check.same("the least one", 1, ends.heavyAt(0, 2));
     }
 
     private static void error() {

@@ -22,6 +22,7 @@ public final class BoundsOfCallsTest {
         mergeOfNothing();
         mergeRefused();
         mergeStays();
+        mergeAsIfOneHadSeenAll();
         mergeWraps();
         kind();
         seen();
@@ -386,6 +387,33 @@ public final class BoundsOfCallsTest {
             Check.same("'" + kind + "' the sum of both", due, room.merge(0, 1));
             Check.same("'" + kind + "' the other one stays", true, room.isSame(1, 2));
             Check.same("'" + kind + "' so does its weight", room.seen(2), room.seen(1));
+        }
+    }
+
+    /** At the least and the greatest size of each kind that forgets nothing by merging. */
+    private static void mergeAsIfOneHadSeenAll() {
+        Check.about("promise 8");
+        int[][] sizes = {{8, 1, 256, 8}, {4, 0, 64, 0}, {2, 1, 64, 6}, {1, 0, 16, 0}, {3, 0, 60, 0}};
+        for (int i = 0; i < 5; i++) {
+            char kind = "fdcmi".charAt(i);
+            for (int end = 0; end < 4; end += 2) {
+                Sketchery room = new Sketchery();
+                for (int sketch = 0; sketch < 3; sketch++) {
+                    room.sketch(kind, sizes[i][end], sizes[i][end + 1], 65535);
+                }
+                for (int row = 0; row < 20; row++) {
+                    room.wipe();
+                    room.typeRow(row * 40, 1, 1 + row * 2);
+                    room.addTyped(row % 2, 1 + row);
+                    room.addTyped(2, 1 + row);
+                }
+                room.merge(0, 1);
+                Check.same("'" + kind + "' as if one had seen all", true, room.isSame(0, 2));
+                Check.same("'" + kind + "' all that was seen", room.seen(2), room.seen(0));
+                room.merge(1, 2);
+                boolean isMore = kind == 'c' || kind == 'i';
+                Check.same("'" + kind + "' items seen twice", !isMore, room.isSame(1, 2));
+            }
         }
     }
 

@@ -17,6 +17,7 @@ public final class BoundsOfFiguresTest {
         seenShareOfTen();
         checksumOfNothing();
         checksumOfTen();
+        checksumOfKinds();
         checksumBelowZero();
         isSound();
         isSoundWhenAllIsFull();
@@ -248,6 +249,49 @@ public final class BoundsOfFiguresTest {
         }
         Check.same("full ones", sum.longValue(), room.checksum());
         Check.same("which are above a long", true, sum.bitLength() > 63);
+    }
+
+    /** The figure of each kind, told by the elements that its other calls answer. */
+    private static void checksumOfKinds() {
+        Check.about("promise 38");
+        int[] sizes = {256, 64, 8, 64, 16, 10, 1000, 16, 60};
+        for (int i = 0; i < 9; i++) {
+            char kind = KINDS.charAt(i);
+            for (int items : new int[] {1, 2, 7, 40}) {
+                Sketchery room = new Sketchery();
+                room.sketch(kind, sizes[i], BoundsOfCallsTest.second(kind), 65535);
+                room.typeRow(65535, 65534, items);
+                room.addTyped(0, 3);
+                long due = (7L * 31 + room.seen(0)) * 31 + figure(room, kind);
+                Check.same("'" + kind + "' with " + items, due, room.checksum());
+            }
+        }
+    }
+
+    private static long figure(Sketchery room, char kind) {
+        return switch (kind) {
+            case 'f' -> room.ones(0);
+            case 'w' -> room.within(0);
+            case 'c' -> room.seen(0);
+            case 'i' -> 3 * room.seen(0);
+            case 'q' -> room.kept(0, 0) + room.kept(0, 1) + room.kept(0, 2);
+            default -> elements(room, kind);
+        };
+    }
+
+    private static long elements(Sketchery room, char kind) {
+        long sum = 0;
+        for (int i = 0; i < 64; i++) {
+            int index = i;
+            Object element = Check.outcome(() -> switch (kind) {
+                case 'd' -> (long) room.register(0, index);
+                case 'h' -> room.count(0, room.heavyAt(0, index));
+                case 's' -> (long) room.sampleAt(0, index);
+                default -> (long) room.leastAt(0, index);
+            });
+            sum += element instanceof Long ? (Long) element : 0;
+        }
+        return sum;
     }
 
     private static void checksumBelowZero() {

@@ -11,12 +11,15 @@ public final class BoundsOfOtherKindsTest {
         turnsStay();
         ranksAreWithinTheError();
         levelsAboveAnInt();
+        levelsAboveALong();
+        quantilesOfFew();
         sampleOfOne();
         sampleDraws();
         sampleOfManyAtOnce();
         windowAges();
         windowOfOneTick();
         windowJoins();
+        windowLetsSomeGo();
         windowsOfOneTime();
         windowAtTheEndOfTime();
         leastHashesAreSigned();
@@ -25,6 +28,7 @@ public final class BoundsOfOtherKindsTest {
         cellCounts();
         cellsOfAnotherItem();
         cellsMerge();
+        endlessPeeling();
         cellCountsWrap();
         Check.end("BoundsOfOtherKindsTest");
     }
@@ -223,6 +227,58 @@ public final class BoundsOfOtherKindsTest {
         Check.same("sound", true, room.isSound());
     }
 
+    /** Beyond a long all sums are those of Java: what items stand for, the weight seen, and the error. */
+    private static void levelsAboveALong() {
+        Check.about("'q', as longs");
+        Sketchery room = two('q', 2, 0, 0);
+        PlainRoom plain = new PlainRoom();
+        plain.sketch('q', 2, 0, 0);
+        plain.sketch('q', 2, 0, 0);
+        for (int sketch = 0; sketch < 2; sketch++) {
+            room.typeRow(sketch * 9, 1, 9);
+            plain.typeRow(sketch * 9, 1, 9);
+            room.addTyped(sketch, 1);
+            plain.addTyped(sketch, 1);
+        }
+        int below = 0;
+        for (int i = 0; i < 110; i++) {
+            int into = i % 2;
+            int other = 1 - into;
+            long seen = plain.merge(into, other);
+            Check.same("the weight seen after " + i, seen, room.merge(into, other));
+            Check.same("what all items stand for after " + i, seen, room.rank(into, 65535));
+            Check.same("the error after " + i, plain.error(into), room.error(into));
+            Check.same("sound after " + i, true, room.isSound());
+            below += seen < 0 ? 1 : 0;
+        }
+        Check.same("some weights are below 0", true, below > 0);
+        for (int level = 60; level < 70; level++) {
+            Check.same("kept on " + level, plain.kept(0, level), room.kept(0, level));
+        }
+    }
+
+    /** By the words of the document: the least item kept that has enough, of each share. */
+    private static void quantilesOfFew() {
+        Check.about("promise 21");
+        int[] many = {1, 2, 3, 4, 5, 7, 10, 16, 17, 33, 50, 99, 100, 101, 117, 149, 150, 199, 200, 201, 250, 399, 400, 401};
+        for (int size = 2; size <= 16; size += 14) {
+            for (int all : many) {
+                Sketchery room = Check.room('q', size, 0, 0);
+                for (int left = all; left > 0; left -= 40) {
+                    room.wipe();
+                    room.typeRow(left * 101 % 65536, 7919, Math.min(left, 40));
+                    room.addTyped(0, 1);
+                }
+                for (int share = 0; share <= 100; share++) {
+                    int item = room.quantile(0, share);
+                    boolean hasEnough = room.rank(0, item + 1) * 100 >= (long) share * all;
+                    boolean isLeast = share == 0 ? room.rank(0, item) == 0 : room.rank(0, item) * 100 < (long) share * all;
+                    Check.same("the share " + share + " of " + all, true, hasEnough && isLeast);
+                }
+            }
+        }
+    }
+
     private static void sampleOfOne() {
         Check.about("'s'");
         int[] met = new int[2];
@@ -357,6 +413,39 @@ public final class BoundsOfOtherKindsTest {
         Check.add(chain, 0, 1, 65535);
         bucketsAre(chain, 0, 32);
         Check.same("the half of one", 16, chain.within(0));
+    }
+
+    private static void windowLetsSomeGo() {
+        Check.about("'w'");
+        Sketchery room = Check.room('w', 10, 2, 0);
+        for (int i = 0; i < 7; i++) {
+            Check.add(room, 0, 1, i);
+            room.tick(1);
+        }
+        // 2 of the times 0 and 1, 2 of 2 and 3, 2 of 4 and 5, which make 4 at 3, and 2 at 5; 1 at 6.
+        bucketsAre(room, 0, 4, 2, 1);
+        Check.add(room, 0, 1, 7);
+        bucketsAre(room, 0, 4, 2, 1, 1);
+        room.tick(5);
+        bucketsAre(room, 0, 4, 2, 1, 1);
+        room.tick(1);
+        // Ten ticks after the time 3.
+        bucketsAre(room, 0, 2, 1, 1);
+        Check.same("the count of those left", 3, room.within(0));
+        room.tick(2);
+        bucketsAre(room, 0, 1, 1);
+        room.tick(1);
+        bucketsAre(room, 0, 1);
+        Check.add(room, 0, 1, 8, 9);
+        // 1 of the time 7, and two of 16: the oldest two are one at 16.
+        bucketsAre(room, 0, 2, 1);
+        room.tick(9);
+        bucketsAre(room, 0, 2, 1);
+        Check.same("sound", true, room.isSound());
+        room.tick(1);
+        bucketsAre(room, 0);
+        Check.same("nothing left", 0, room.within(0));
+        Check.same("ten were seen", 10L, room.seen(0));
     }
 
     private static void windowsOfOneTime() {
@@ -542,6 +631,36 @@ public final class BoundsOfOtherKindsTest {
         room.subtract(0, 1);
         Check.same("5 lacks", 5, room.peeledAt(0, false, 0));
         Check.same("0 is there", 0, room.peeledAt(0, true, 0));
+    }
+
+    /**
+     * An item x is alone in the cell 0, and in the cell 2 with others that sum to it: the count there
+     * is 0, and all sums. Peeling takes x from the cell 0, lacks it in the cell 2, and begins again.
+     */
+    private static void endlessPeeling() {
+        Check.about("'i', at most 200");
+        int seed = 5;
+        int x = 0;
+        while (!ItemSums.goesTo(x, seed, 2, 0, 2)) {
+            x++;
+        }
+        List<Integer> items = ItemSums.itemsFor(x, seed, item -> ItemSums.goesTo(item, seed, 2, 1, 2));
+        int half = items.size() / 2;
+        Sketchery room = new Sketchery();
+        room.sketch('i', 6, 0, seed);
+        room.sketch('i', 6, 0, seed);
+        Check.add(room, 0, 1, x);
+        for (int i = 0; i < items.size(); i++) {
+            Check.add(room, i < half ? 0 : 1, 1, items.get(i));
+        }
+        room.subtract(0, 1);
+        Check.same("200 at most, there", 100, room.peeled(0, true));
+        Check.same("200 at most, lacking", 100, room.peeled(0, false));
+        Check.same("the last one there", x, room.peeledAt(0, true, 99));
+        Check.same("the last one lacking", x, room.peeledAt(0, false, 99));
+        Check.refuses("no more there", Check.NONE, () -> room.peeledAt(0, true, 100));
+        Check.refuses("no more lacking", Check.NONE, () -> room.peeledAt(0, false, 100));
+        Check.same("not clean", false, room.isClean(0));
     }
 
     private static void cellCountsWrap() {

@@ -4,16 +4,14 @@ import java.util.Set;
 import java.util.TreeSet;
 import java.util.function.IntPredicate;
 
-/** Finds items whose sum in exclusive or, and the sum of their hashes, are those of one other item. */
+/** Finds items whose sum in exclusive or, and the sum of their hashes, are those that are told. */
 final class ItemSums {
     private static final int BITS = 49;
 
-    private final int seed;
     private final long[] heads = new long[BITS];
     private final List<Set<Integer>> sets = new ArrayList<>();
 
-    private ItemSums(int seed) {
-        this.seed = seed;
+    private ItemSums() {
         for (int i = 0; i < BITS; i++) {
             sets.add(new TreeSet<>());
         }
@@ -33,29 +31,34 @@ final class ItemSums {
         return true;
     }
 
-    /** An odd number of items of those that may be taken, for cells of the seed. */
+    /** An odd number of items of those that may be taken, whose sums are those of one other item. */
     static List<Integer> itemsFor(int sum, int seed, IntPredicate mayBeTaken) {
-        ItemSums sums = new ItemSums(seed);
+        return itemsFor(sum, PlainRoom.hash(sum, seed + 3), true, seed, item -> item != sum && mayBeTaken.test(item));
+    }
+
+    /** Items of those that may be taken, an odd number of them or an even one, for cells of the seed. */
+    static List<Integer> itemsFor(int sum, int hashes, boolean isOdd, int seed, IntPredicate mayBeTaken) {
+        ItemSums sums = new ItemSums();
         for (int item = 0; item < 65536; item++) {
-            if (item != sum && mayBeTaken.test(item)) {
-                sums.learn(item);
+            if (mayBeTaken.test(item)) {
+                sums.learn(item, PlainRoom.hash(item, seed + 3));
             }
         }
         Set<Integer> set = new TreeSet<>();
-        if (sums.reduce(sums.vector(sum), set) != 0 || set.size() % 2 != 1) {
+        if (sums.reduce(vector(sum, hashes, isOdd), set) != 0) {
             throw new IllegalStateException("no such items");
         }
         return new ArrayList<>(set);
     }
 
-    /** The item, its hash, and a bit by which the number of items is odd. */
-    private long vector(int item) {
-        return item | (long) PlainRoom.hash(item, seed + 3) << 16 & 0xFFFFFFFF0000L | 1L << 48;
+    /** The sum, the sum of hashes, and a bit by which the number of items is odd. */
+    private static long vector(int sum, int hashes, boolean isOdd) {
+        return sum | (long) hashes << 16 & 0xFFFFFFFF0000L | (isOdd ? 1L << 48 : 0);
     }
 
-    private void learn(int item) {
+    private void learn(int item, int hash) {
         Set<Integer> set = new TreeSet<>(Set.of(item));
-        long rest = reduce(vector(item), set);
+        long rest = reduce(vector(item, hash, true), set);
         if (rest != 0) {
             int top = 63 - Long.numberOfLeadingZeros(rest);
             heads[top] = rest;

@@ -1,5 +1,3 @@
-import java.util.List;
-
 /** Promises 28 to 33. */
 public final class LikenessAndCellsTest {
     public static void main(String[] arguments) {
@@ -9,7 +7,6 @@ public final class LikenessAndCellsTest {
         peelOrder();
         peelTwins();
         peelLacking();
-        endlessPeeling();
         refusals();
         Check.end("LikenessAndCellsTest");
     }
@@ -182,35 +179,6 @@ public final class LikenessAndCellsTest {
         Check.same("clean", true, room.isClean(0));
         Check.same("merged", 2L, room.merge(0, 1));
         Check.same("nothing is left", 0, room.peeled(0, false));
-    }
-
-    /**
-     * An item x is alone in the cell 0, and in the cell 2 with others that sum to it: the count there
-     * is 0, and all sums. Peeling takes x from the cell 0, lacks it in the cell 2, and begins again.
-     */
-    private static void endlessPeeling() {
-        int seed = 5;
-        int x = 0;
-        while (!ItemSums.goesTo(x, seed, 2, 0, 2)) {
-            x++;
-        }
-        List<Integer> items = ItemSums.itemsFor(x, seed, item -> ItemSums.goesTo(item, seed, 2, 1, 2));
-        int half = items.size() / 2;
-        Sketchery room = new Sketchery();
-        room.sketch('i', 6, 0, seed);
-        room.sketch('i', 6, 0, seed);
-        Check.add(room, 0, 1, x);
-        for (int i = 0; i < items.size(); i++) {
-            Check.add(room, i < half ? 0 : 1, 1, items.get(i));
-        }
-        room.subtract(0, 1);
-        Check.same("200 at most, there", 100, room.peeled(0, true));
-        Check.same("200 at most, lacking", 100, room.peeled(0, false));
-        Check.same("the last one there", x, room.peeledAt(0, true, 99));
-        Check.same("the last one lacking", x, room.peeledAt(0, false, 99));
-        Check.refuses("no more there", Check.NONE, () -> room.peeledAt(0, true, 100));
-        Check.refuses("no more lacking", Check.NONE, () -> room.peeledAt(0, false, 100));
-        Check.same("not clean", false, room.isClean(0));
     }
 
     private static void refusals() {
