@@ -18,6 +18,7 @@ public final class BoundsOfKindsTest {
         heavyMergesAboveSize();
         heavyMergesLikeCounts();
         heavyWraps();
+        heavyTakesFromWrapped();
         rowPlaces();
         rowsAreOneSided();
         rowsMerge();
@@ -362,6 +363,27 @@ public final class BoundsOfKindsTest {
             below += counts[into] < 0 ? 1 : 0;
         }
         Check.same("some are below 0", true, below > 0);
+    }
+
+    /** One counter is below 0, and another one so far above it that their difference wraps around. */
+    private static void heavyTakesFromWrapped() {
+        Check.about("'h', counts as longs");
+        Sketchery room = twoHeavy(2, new int[] {1, 2, 2, 1}, new int[] {1, 2, 2, 1});
+        long[] counts = {1, 1};
+        for (int i = 0; i < 90; i++) {
+            counts[i % 2] += counts[1 - i % 2];
+            room.merge(i % 2, 1 - i % 2);
+        }
+        long one = 2 * counts[1];
+        long two = counts[1];
+        countsAre(room, 1, 0, 1, one, 2, two);
+        Check.same("one is below 0", true, one < 0 && two > 0 && two - one < 0);
+        Check.same("the greater count first", 2, room.heavyAt(1, 0));
+        Check.add(room, 1, 5, 3);
+        countsAre(room, 1, one, 1, 0, 2, two - one, 3, 5 - one);
+        Check.elements("the counter at 0 alone was free,", 2, index -> room.heavyAt(1, index));
+        Check.same("what is left of the weight first", 3, room.heavyAt(1, 0));
+        Check.same("then what is below 0", 2, room.heavyAt(1, 1));
     }
 
     private static void rowPlaces() {

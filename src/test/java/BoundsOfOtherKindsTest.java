@@ -25,6 +25,7 @@ public final class BoundsOfOtherKindsTest {
         leastHashesAreSigned();
         leastHashesMerge();
         cellsOfThirds();
+        peelsByOneThirdAlone();
         cellCounts();
         cellsOfAnotherItem();
         cellsMerge();
@@ -571,6 +572,41 @@ public final class BoundsOfOtherKindsTest {
         if (first < cells) {
             Check.same("the first cell is peeled first", ahead, room.peeledAt(0, true, 0));
         }
+    }
+
+    /** Two items with two cells in common: the one third where they part is enough for both. */
+    private static void peelsByOneThirdAlone() {
+        Check.about("'i', a cell of one third alone");
+        for (int part = 0; part < 3; part++) {
+            int two = 1;
+            while (!partIn(part, 0, two)) {
+                two++;
+            }
+            Sketchery room = two('i', 60, 0, 9);
+            Check.add(room, 0, 1, 0, two);
+            Check.add(room, 1, 1, two, two, 0);
+            boolean isAhead = ItemSums.cell(0, 9, 20, part) < ItemSums.cell(two, 9, 20, part);
+            Check.same("both are peeled by the third " + part, 2, room.peeled(0, true));
+            Check.same("the first one", isAhead ? 0 : two, room.peeledAt(0, true, 0));
+            Check.same("the other one", isAhead ? two : 0, room.peeledAt(0, true, 1));
+            Check.same("clean", true, room.isClean(0));
+            room.subtract(0, 1);
+            Check.same("one lacks", two, room.peeledAt(0, false, 0));
+            room.subtract(0, 1);
+            // 0 lacks once, and the other one thrice: one alone is peeled, where they part.
+            Check.same("one of both lacks", 1, room.peeled(0, false));
+            Check.same("none is there", 0, room.peeled(0, true));
+            Check.same("thrice is too often", false, room.isClean(0));
+        }
+    }
+
+    private static boolean partIn(int part, int one, int two) {
+        for (int i = 0; i < 3; i++) {
+            if (ItemSums.cell(one, 9, 20, i) == ItemSums.cell(two, 9, 20, i) == (i == part)) {
+                return false;
+            }
+        }
+        return true;
     }
 
     private static void cellCounts() {

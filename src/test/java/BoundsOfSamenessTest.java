@@ -181,6 +181,28 @@ public final class BoundsOfSamenessTest {
         Check.same("the level 1 is the same", room.keptAt(0, 1, 0), room.keptAt(1, 1, 0));
         Check.same("the error is the same", room.error(0), room.error(1));
         isSame("the turn of the level 0 alone", false, room);
+        turnsOfLevel(1, 9);
+        turnsOfLevel(2, 21);
+    }
+
+    /** So many items let a level be compacted once, and those below it an even number of times. */
+    private static void turnsOfLevel(int level, int many) {
+        Sketchery room = two('q', 2, 0, 3);
+        room.sketch('q', 2, 0, 3);
+        room.typeRow(1, 1, many);
+        room.addTyped(0, 1);
+        room.addTyped(2, 1);
+        isSame("an item at least", false, room);
+        room.merge(1, 2);
+        Check.same("the error is the same", room.error(0), room.error(1));
+        for (int each = 0; each <= level + 1; each++) {
+            Check.same("the level " + each + " is as full", room.kept(0, each), room.kept(1, each));
+            for (int i = 0; i < room.kept(0, each); i++) {
+                Check.same("the level " + each + " is the same", room.keptAt(0, each, i), room.keptAt(1, each, i));
+            }
+        }
+        isSame("the turn of the level " + level + " alone", false, room);
+        Check.same("with all turns", true, room.isSame(0, 2));
     }
 
     /** One sketch compacts four items at once, the other one merges a compaction and has one of its own. */
