@@ -21,6 +21,7 @@ public final class BoundsOfFiguresTest {
         checksumBelowZero();
         isSound();
         isSoundWhenAllIsFull();
+        isNotSound();
         Check.end("BoundsOfFiguresTest");
     }
 
@@ -361,5 +362,32 @@ public final class BoundsOfFiguresTest {
                 Check.same("all kinds, after " + i, true, room.isSound());
             }
         }
+    }
+
+    /** What was seen wraps around below 0 ahead of the counts of 'h' and their error. */
+    private static void isNotSound() {
+        Check.about("promise 39, 'h', as longs");
+        boolean[] haveBeenAlone = new boolean[2];
+        for (int first = 0; first < 2; first++) {
+            Sketchery room = new Sketchery();
+            room.sketch('h', 1, 0, 0);
+            room.sketch('h', 1, 0, 0);
+            Check.add(room, 0, 1000, 1);
+            Check.add(room, 1, 999, 2);
+            for (int i = first; i < first + 85; i++) {
+                room.merge(i % 2, 1 - i % 2);
+                boolean isFirstFine = isWithin(room, 0);
+                boolean isSecondFine = isWithin(room, 1);
+                Check.same("after merge " + i, isFirstFine && isSecondFine, room.isSound());
+                haveBeenAlone[0] |= !isFirstFine && isSecondFine;
+                haveBeenAlone[1] |= isFirstFine && !isSecondFine;
+            }
+        }
+        Check.same("the first one alone is not sound", true, haveBeenAlone[0]);
+        Check.same("the last one alone is not sound", true, haveBeenAlone[1]);
+    }
+
+    private static boolean isWithin(Sketchery room, int sketch) {
+        return room.count(sketch, 1) + room.count(sketch, 2) + room.error(sketch) <= room.seen(sketch);
     }
 }

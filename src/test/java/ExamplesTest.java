@@ -9,6 +9,7 @@ public final class ExamplesTest {
     }
 
     private static void heavy() {
+        Check.about("the example of 'h'");
         Sketchery room = new Sketchery();
         Check.same("sketch", 0, room.sketch('h', 1, 0, 0));
         Check.same("type", 1, room.type(3));
@@ -21,6 +22,7 @@ public final class ExamplesTest {
     }
 
     private static void quantiles() {
+        Check.about("the example of 'q'");
         Sketchery room = new Sketchery();
         Check.same("sketch", 0, room.sketch('q', 2, 0, 0));
         Check.same("type", 1, room.type(5));
@@ -35,6 +37,7 @@ public final class ExamplesTest {
     }
 
     private static void window() {
+        Check.about("the example of 'w'");
         Sketchery room = new Sketchery();
         Check.same("sketch", 0, room.sketch('w', 5, 1, 0));
         Check.same("typeRow", 3, room.typeRow(0, 0, 3));
@@ -46,6 +49,7 @@ public final class ExamplesTest {
     }
 
     private static void sample() {
+        Check.about("the example of 's' and 'm'");
         Sketchery room = new Sketchery();
         Check.same("sketch", 0, room.sketch('s', 2, 0, 0));
         Check.same("typeRow", 2, room.typeRow(1, 1, 2));
