@@ -374,7 +374,11 @@ public final class BoundsOfFiguresTest {
             room.sketch('h', 1, 0, 0);
             Check.add(room, 0, 1000, 1);
             Check.add(room, 1, 999, 2);
-            for (int i = first; i < first + 85; i++) {
+            for (int i = first; i < first + 65; i++) {
+                room.merge(i % 2, 1 - i % 2);
+                Check.same("after merge " + i, true, room.isSound());
+            }
+            for (int i = first + 65; i < first + 85; i++) {
                 room.merge(i % 2, 1 - i % 2);
                 boolean isFirstFine = isWithin(room, 0);
                 boolean isSecondFine = isWithin(room, 1);
